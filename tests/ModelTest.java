@@ -715,7 +715,7 @@ public final class ModelTest {
         }
 
         void go() {
-            while (calls < CALLS - 130 && wrong == 0) {
+            while (calls < CALLS - 150 && wrong == 0) {
                 change();
                 if (random.nextInt(4) == 0) {
                     ask();
@@ -801,7 +801,7 @@ public final class ModelTest {
             if (random.nextInt(30) != 0) {
                 due("clearText", disc.clearText(), model.clearText());
             }
-            for (int i = 0; i < words.length() && calls < CALLS - 150; i++) {
+            for (int i = 0; i < words.length() && calls < CALLS - 190; i++) {
                 char c = words.charAt(i);
                 due("type", disc.type(c), model.type(c));
             }
@@ -837,7 +837,7 @@ public final class ModelTest {
             }
         }
 
-        /** Some 130 calls that ask for all there is. */
+        /** At most 145 calls that ask for all there is. */
         void askAll() {
             for (int photo = -1; photo <= model.shots.size(); photo++) {
                 for (int what = 0; what < 8; what++) {

@@ -320,11 +320,13 @@ public final class DiscArcs {
             return NOT_POSSIBLE;
         }
         // From the longest down: a long row may fit where a shorter one does not.
-        int set = parting.between(photo, photos.size);
-        for (int end = photos.size; end > photo && !parting.isFitting(set); end--) {
-            set = parting.between(photo, end - 1);
+        for (int end = photos.size; end > photo + 1; end--) {
+            int set = parting.between(photo, end);
+            if (parting.isFitting(set)) {
+                return Integer.bitCount(set);
+            }
         }
-        return Integer.bitCount(set);
+        return 1;
     }
 
     // ---- spins
