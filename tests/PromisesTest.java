@@ -130,10 +130,11 @@ public final class PromisesTest {
         due("where one was set aside", disc.addPhoto(99, 0, 0, 0), 9);
         due("a new one is not aside", disc.photo(9, 6), 0);
         due("a new one has no angle", disc.photo(9, 4), NONE);
-        disc.remove(9);
-        read(disc, "98:0,0,0@7,7");
-        disc.addPhoto(97, 0, 0, 0);
-        due("nor an angle's error", disc.setAngle(8, 360, 0), NONE);
+        DiscArcs small = new DiscArcs();
+        due("a photo with an angle", read(small, "98:0,0,0@7,7"), 0);
+        due("ahead of it one without", small.addPhoto(97, 0, 0, 0), 0);
+        due("it has no angle", small.photo(0, 4), NONE);
+        due("nor an angle's error", small.setAngle(0, 360, 0), NONE);
     }
 
     private static void readPhoto() {
@@ -156,10 +157,11 @@ public final class PromisesTest {
         due("the text is no state", disc.count(5), 11);
         due("without an angle behind one with", read(disc, "9:1,1,1"), 2);
         due("no angle is left over", disc.photo(2, 4), NONE);
-        due("nor an angle's error", disc.setAngle(2, 360, 0), NONE);
         due("with no error but that of its angle", read(disc, "8:1,1,0@2,3"), 2);
         due("its angle", disc.photo(2, 4), 2);
         due("its angle's error", disc.photo(2, 5), 3);
+        due("one without an angle", read(disc, "10:1,1,1"), 4);
+        due("no angle's error is left over", disc.setAngle(4, 360, 0), NONE);
         readFaults();
         readOutOfRange();
     }
