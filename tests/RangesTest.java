@@ -27,7 +27,7 @@ public final class RangesTest {
                 answer >= 0 || answer == Check.NONE ? 1 : 0, 1);
     }
 
-    /** Four photos, the first three usable, with an angle and text. */
+    /** Four photos on one arc, all usable, one of them with an angle. */
     private static DiscArcs four() {
         DiscArcs disc = Check.heights(100, 96, 84, 64);
         disc.setAngle(1, 30, 3);
