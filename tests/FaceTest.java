@@ -7,6 +7,8 @@ import java.util.TreeSet;
 
 /** The face of the class: what the document names is public, and nothing else is open. */
 public final class FaceTest {
+    private static final int MOST_FIELDS = 20;
+
     private static int wrong = 0;
 
     private static final Set<String> METHODS = Set.of(
@@ -74,6 +76,38 @@ public final class FaceTest {
         due("the constants", open, new TreeSet<>(CONSTANTS));
     }
 
+    /** The classes inside keep to the same rules: names, fields that belong to no object, few fields. */
+    private static void checkInside() {
+        Set<String> openNames = new TreeSet<>();
+        for (Method method : DiscArcs.class.getMethods()) {
+            if (method.getDeclaringClass() == DiscArcs.class) {
+                openNames.add(method.getName());
+            }
+        }
+        due("the public names", openNames.size(), METHODS.size());
+        checkNumberOfFields(DiscArcs.class);
+        for (Class<?> inside : DiscArcs.class.getDeclaredClasses()) {
+            due("classes inside " + inside, inside.getDeclaredClasses().length, 0);
+            for (Method method : inside.getDeclaredMethods()) {
+                due(inside + ", " + method.getName() + " with a public name",
+                        openNames.contains(method.getName()), false);
+            }
+            for (Field field : inside.getDeclaredFields()) {
+                due(inside + ", " + field.getName() + " is static and not final",
+                        Modifier.isStatic(field.getModifiers()) && !Modifier.isFinal(field.getModifiers()), false);
+            }
+            checkNumberOfFields(inside);
+        }
+    }
+
+    private static void checkNumberOfFields(Class<?> type) {
+        int fields = 0;
+        for (Field field : type.getDeclaredFields()) {
+            fields += Modifier.isStatic(field.getModifiers()) ? 0 : 1;
+        }
+        due(type + " has more than " + MOST_FIELDS + " fields", fields > MOST_FIELDS, false);
+    }
+
     private static void checkClass() {
         due("public final", Modifier.isPublic(DiscArcs.class.getModifiers())
                 && Modifier.isFinal(DiscArcs.class.getModifiers()), true);
@@ -92,6 +126,7 @@ public final class FaceTest {
         checkMethods();
         checkFields();
         checkClass();
+        checkInside();
         System.out.println(wrong == 0 ? "the face is as due" : wrong + " faults of the face");
         if (wrong != 0) {
             System.exit(1);

@@ -205,17 +205,21 @@ public final class DiscArcs {
         if (!isWithin(what, 0, ASK_WHETHER_SPIN_FITS)) {
             return BAD_VALUE;
         }
-        if (what == ASK_WHETHER_SPIN_FITS) {
-            return whetherSpinFits(photo);
+        switch (what) {
+            case X:
+            case Y:
+                return photos.rows[what][photo] + PLACE_SHIFT;
+            case ANGLE:
+            case ANGLE_ERROR:
+                return photos.hasAngle(photo) ? photos.rows[what][photo] : NONE;
+            case ASK_WHETHER_SPIN_FITS:
+                if (!photos.isMarked(photo) || !turning.search()) {
+                    return NONE;
+                }
+                return isIn(turning.fitted, photo) ? 1 : 0;
+            default:
+                return photos.rows[what][photo];
         }
-        int value = photos.rows[what][photo];
-        if (what == X || what == Y) {
-            return value + PLACE_SHIFT;
-        }
-        if ((what == ANGLE || what == ANGLE_ERROR) && !photos.hasAngle(photo)) {
-            return NONE;
-        }
-        return value;
     }
 
     // ---- arcs
@@ -421,13 +425,6 @@ public final class DiscArcs {
     private int missedByBest() {
         int usable = photos.usable();
         return curve.layBest(usable) ? curve.missedOf(usable) : 0;
-    }
-
-    private int whetherSpinFits(int photo) {
-        if (!photos.isMarked(photo) || !turning.search()) {
-            return NONE;
-        }
-        return isIn(turning.fitted, photo) ? 1 : 0;
     }
 
     private boolean areHeld(int one, int two, int three) {
